@@ -11,6 +11,7 @@ public final class SacksAndHoursTest {
         passByRules();
         passTakingOff();
         passTakingOffByLeft();
+        passFull();
         Runs.end();
     }
 
@@ -127,5 +128,19 @@ public final class SacksAndHoursTest {
             "sackOn 0 = 0", "changes = 3"));
         Runs.check("promise 9, allowed no more", Runs.join(rows, "bring 0 6 9 = 1", "setTakingOff 0 = true", "pass 1 = 4",
             "sackOn 0 = 0", "changes = 1"));
+    }
+
+    private static void passFull() {
+        String[] rows = {"setTakingOff 1 = false", "setRule 2 = 0"};
+        for (int stone = 0; stone < 4; stone++) {
+            rows = Runs.join(rows, "addStone 1 = " + stone);
+        }
+        for (int sack = 0; sack < 16; sack++) {
+            rows = Runs.join(rows, "bring " + sack % 8 + " 1 1 = " + sack);
+        }
+        Runs.check("promise 9, all stones and sacks", Runs.join(rows, "meanLeft = 1.0", "placeOf 15 = 15", "first = 0",
+            "pass 1 = 0", "sackOn 3 = 3", "stoneOf 3 = 3", "leftFor 7 = 2", "groundIn 60 = 16", "willBeGroundAt 15 = 8",
+            "pass 1 = 4", "sackOn 3 = -1", "ground = 4", "late = 4", "placeOf 15 = 11", "pass 60 = 12", "late = 64",
+            "groundAt 15 = 8", "placeOf 15 = -1", "first = -1", "changes = 16", "meanLeft = 0.0"));
     }
 }

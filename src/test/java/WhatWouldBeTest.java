@@ -152,6 +152,11 @@ public final class WhatWouldBeTest {
     private static void digest() {
         Runs.check("promise 33, a new object", "digest = " + mixed(0, 0, 0, 0, 5, 0, 0, -1, 0, 0, 0,
             0, 0, 0, 0, 0, 0, 0, 0));
+        Runs.check("promise 33, 12 hours and 200", "addStone 1 = 0", "bring 3 16 50 = 0",
+            "digest = " + mixed(0, 1, 1, 0, 5, 0, 0, 0, 0, 0, 11,
+                -1,
+                -1, 16, 50, -1, 0, 17,
+                0, 0, 0, 16, 0, 0, 0, 0));
         Runs.check("promise 33", "addStone 4 = 0", "addStone 1 = 1", "bring 1 20 50 = 0", "pass 1 = 3", "bring 7 3 2 = 1",
             "setWind 1 6 = 5", "setTakingOff 1 = false", "setRule 2 = 0",
             "digest = " + mixed(1, 2, 2, 2, 6, 0, 1, 1, 0, 0, 20,
