@@ -37,12 +37,15 @@ public final class DigestTest {
     }
 
     private static void eachPart() {
-        check("then for each stone sackOn(); | none, but sacks", Mills.sacks(2, 9, 9));
-        check("then for each sack stoneOf(), leftOf(), untilOf(), groundAt(), placeOf(), willBeGroundAt(); | none, but stones",
-            Mills.stones(3, 4));
-        check("then for each baker leftFor(). | of the middle of the work", Mills.BUSY);
-        check("then for each stone sackOn(); | all 4, and all 16 sacks", Mills.rows(Mills.stones(9, 8, 1, 2),
+        String eachStone = "then for each stone sackOn(); | ";
+        check(eachStone + "none, but sacks", Mills.sacks(2, 9, 9));
+        check(eachStone + "all 4, on which there are sacks", Mills.rows(Mills.stones(1, 1, 1, 1), Mills.sacks(4, 9, 9),
+            Mills.of("pass 2 =")));
+        String eachSack = "then for each sack stoneOf(), leftOf(), untilOf(), groundAt(), placeOf(), willBeGroundAt(); | ";
+        check(eachSack + "none, but stones", Mills.stones(3, 4));
+        check(eachSack + "all 16, some ground, some on stones", Mills.rows(Mills.stones(9, 8, 1, 2),
             Mills.sacks(16, 30, 9), Mills.of("pass 20 =", "setRule 1 =")));
+        check("then for each baker leftFor(). | of the middle of the work", Mills.BUSY);
         check("which wraps around as a 64-bit integer | all ground", Mills.rows(Mills.stones(9, 9, 9, 9),
             Mills.sacks(16, 3, 1), Mills.of("pass 60 =")));
         // The sacks that are never ground answer -1 for groundAt() and willBeGroundAt().
@@ -60,14 +63,18 @@ public final class DigestTest {
         }
     }
 
+    /** "An object is used for at most 512 calls after it has been made": 511 of them, then the digest. */
     private static void afterTheLongestUse() {
         String[] rows = Mills.rows(Mills.stones(9, 1), Mills.sacks(3, 60, 9), Mills.of("setTakingOff 1 ="));
         while (rows.length < 511) {
             rows = Runs.join(rows, "pass 60 =");
         }
-        GustMill mill = Runs.after(rows, rows.length);
-        GustMill same = Runs.after(rows, rows.length);
-        Runs.same("What it is | An object is used for at most 512 calls | the 512th, digest", mill.digest(), ofAnswers(same));
+        SlowMill slow = new SlowMill();
+        for (String row : rows) {
+            Runs.callOf(slow, row);
+        }
+        Runs.same("What it is | An object is used for at most 512 calls | the 512th, digest",
+            Runs.after(rows, rows.length).digest(), slow.digest());
     }
 
     private static void check(String title, String[] rows) {

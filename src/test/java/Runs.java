@@ -55,7 +55,7 @@ final class Runs {
         }
     }
 
-    private static String callOf(GustMill mill, String row) {
+    static String callOf(Object mill, String row) {
         String[] parts = partsOf(row);
         int[] numbers = new int[parts.length - 1];
         for (int i = 0; i < numbers.length; i++) {
